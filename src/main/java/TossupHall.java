@@ -393,18 +393,19 @@ public final class TossupHall {
 
     public int ruling(int match, int ruling, char what) throws IndexOutOfBoundsException, IllegalArgumentException {
         Ruling given = rulingAt(matchAt(match), ruling);
-        switch (what) {
-            case 'p':
-                return given.player;
-            case 'w':
-                return given.wordsRead;
-            case 'r':
-                return given.isRight ? 1 : 0;
-            case 'q':
-                return given.question;
-            default:
-                throw new IllegalArgumentException("no such letter");
+        if (what == 'p') {
+            return given.player;
         }
+        if (what == 'w') {
+            return given.wordsRead;
+        }
+        if (what == 'r') {
+            return given.isRight ? 1 : 0;
+        }
+        if (what == 'q') {
+            return given.question;
+        }
+        throw new IllegalArgumentException("no such letter");
     }
 
     // ---- protests
@@ -491,22 +492,25 @@ public final class TossupHall {
 
     public int count(int player, char what) throws IndexOutOfBoundsException, IllegalArgumentException {
         Player counted = playerAt(player);
-        switch (what) {
-            case 'p':
-                return countRulings(player, true, POWER_WORTH);
-            case 't':
-                return countRulings(player, true, PLAIN_WORTH);
-            case 'n':
-                return countRulings(player, false, EARLY_WRONG_WORTH);
-            case 'w':
-                return countRulings(player, false, 0);
-            case 'e':
-                return countEarly(player);
-            case 'h':
-                return countHeardBy(counted.team);
-            default:
-                throw new IllegalArgumentException("no such letter");
+        if (what == 'p') {
+            return countRulings(player, true, POWER_WORTH);
         }
+        if (what == 't') {
+            return countRulings(player, true, PLAIN_WORTH);
+        }
+        if (what == 'n') {
+            return countRulings(player, false, EARLY_WRONG_WORTH);
+        }
+        if (what == 'w') {
+            return countRulings(player, false, 0);
+        }
+        if (what == 'e') {
+            return countEarly(player);
+        }
+        if (what == 'h') {
+            return countHeardBy(counted.team);
+        }
+        throw new IllegalArgumentException("no such letter");
     }
 
     public boolean isSuspect(int player) throws IndexOutOfBoundsException {
