@@ -470,14 +470,16 @@ public final class TossupHall {
             throw new IllegalStateException("a match goes on");
         }
         table.rank(this, false);
+        int least = teamCount / pools;
+        int larger = teamCount % pools;
         int rank = 0;
         for (int pool = 0; pool < pools; pool++) {
-            int after = rank + poolSize(pool, pools);
+            int after = rank + least + (pool < larger ? 1 : 0);
             for (; rank < after && rank < teamCount; rank++) {
                 teams[table.order[rank]].pool = pool;
             }
         }
-        return poolSize(0, pools);
+        return least + (larger > 0 ? 1 : 0);
     }
 
     public int poolOf(int team) throws IndexOutOfBoundsException {
@@ -699,10 +701,6 @@ public final class TossupHall {
     }
 
     // ---- what the log tells
-
-    private int poolSize(int pool, int pools) {
-        return teamCount / pools + (pool < teamCount % pools ? 1 : 0);
-    }
 
     private int countRulings(int player, boolean isRight, int worth) {
         int found = 0;
@@ -1003,7 +1001,7 @@ public final class TossupHall {
             if (places > MOST_PACKED || !canAlternate(last) || !canFill(this, open, 0)) {
                 return false;
             }
-            while (size < places) {
+            for (int place = 0; place < places; place++) {
                 int next = firstFit(open, last);
                 if (next == NONE) {
                     return false;
@@ -1011,9 +1009,9 @@ public final class TossupHall {
                 last = categories[next];
                 needs[last]--;
                 open = without(open, next);
-                order[size] = next;
-                size++;
+                order[place] = next;
             }
+            size = places;
             return true;
         }
 
@@ -1524,11 +1522,16 @@ public final class TossupHall {
         }
 
         long upperOf(int team) {
-            return doubled(team) / divisorOf(team);
+            return lowest(doubled(team), team);
         }
 
         long lowerOf(int team) {
-            return 2 * scale / divisorOf(team);
+            return lowest(2 * scale, team);
+        }
+
+        private long lowest(long number, int team) {
+            long divisor = divisorOf(team);
+            return divisor == 0 ? number : number / divisor;
         }
 
         /** The greatest common divisor, with the sign that makes the lower number positive. */
@@ -1539,9 +1542,6 @@ public final class TossupHall {
                 long rest = one % other;
                 one = other;
                 other = rest;
-            }
-            if (one == 0) {
-                return 1;
             }
             return scale < 0 ? -one : one;
         }

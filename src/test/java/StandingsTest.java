@@ -11,6 +11,7 @@ public final class StandingsTest {
         poolsByAllMatches();
         rating();
         ratingOfMany();
+        ratingOfAll();
         count();
         countOfTheMatchThatGoesOn();
         countEarly();
@@ -221,6 +222,56 @@ public final class StandingsTest {
         rated("promise 39: one loss", hall, 1, 5, 12);
         rated("promise 39: one loss", hall, 3, 5, 12);
         Checks.holds("promise 45: they solve it", hall.isSound());
+    }
+
+    /** 8 teams and 40 matches, of which 16 are won: what is answered must solve the equations, in lowest terms. */
+    private static void ratingOfAll() {
+        TossupHall hall = fourTeams();
+        for (int i = 4; i < 8; i++) {
+            Halls.team(hall, 0);
+        }
+        int[][] met = new int[8][8];
+        int[] won = new int[8];
+        for (int i = 0; i < 24; i++) {
+            int team = i % 3;
+            meet(met, team, 3 + i % 5);
+            hall.match(team, 3 + i % 5, 0);
+            hall.end();
+        }
+        for (int packet = 0; packet < 4; packet++) {
+            for (int team = 0; team < 4; team++) {
+                int other = 4 + (team + packet) % 4;
+                meet(met, team, other);
+                Halls.shortMatch(hall, team, other, packet, 4, team, "yes");
+                won[team]++;
+                won[other]--;
+            }
+        }
+        for (int team = 0; team < 8; team++) {
+            solves(hall, team, met[team], won[team]);
+        }
+        Checks.holds("promise 45: they solve it", hall.isSound());
+    }
+
+    private static void meet(int[][] met, int team, int other) {
+        met[team][other]++;
+        met[other][team]++;
+    }
+
+    private static HallModel.Fraction fraction(TossupHall hall, int team) {
+        return new HallModel.Fraction(hall.rating(team, false), hall.rating(team, true));
+    }
+
+    private static void solves(TossupHall hall, int team, int[] met, int won) {
+        HallModel.Fraction own = fraction(hall, team);
+        HallModel.Fraction left = own.minus(own.times(new HallModel.Fraction(-1, 1)));
+        for (int i = 0; i < met.length; i++) {
+            HallModel.Fraction more = own.minus(fraction(hall, i)).times(new HallModel.Fraction(-met[i], 1));
+            left = left.minus(more);
+        }
+        HallModel.Fraction due = new HallModel.Fraction(2 + won, 2);
+        Checks.holds("promise 39: solved for " + team, left.upper.equals(due.upper) && left.lower.equals(due.lower));
+        Checks.same("promise 39: lowest terms of " + team, hall.rating(team, true), own.lower.longValueExact());
     }
 
     private static void count() {
