@@ -23,6 +23,7 @@ public final class MatchesTest {
         phase();
         score();
         rulings();
+        mostRulings();
         Checks.finish("MatchesTest");
     }
 
@@ -423,5 +424,24 @@ public final class MatchesTest {
         hall.end();
         hall.resolve(0, 1, true);
         Checks.same("promise 31: as it was given", hall.ruling(0, 1, 'r'), 1);
+    }
+
+    /** Ten tossups with two wrong answers each. */
+    private static void mostRulings() {
+        TossupHall hall = Halls.begun(10);
+        for (int i = 0; i < 10; i++) {
+            Halls.play(hall, 1, i % 4, "no");
+            Halls.play(hall, 1, (i + 2) % 4, "no");
+        }
+        Checks.letter("promise 28: the last one is dead", hall.phase(), '-');
+        Checks.same("promise 30: two for each tossup", hall.rulings(0), 20);
+        Checks.same("promise 31: the last player", hall.ruling(0, 19, 'p'), 3);
+        Checks.same("promise 31: the last question", hall.ruling(0, 19, 'q'), 9);
+        Checks.same("promise 29: the first answers cost", hall.score(0, false), -30);
+        Checks.same("promise 29: the other team's", hall.score(0, true), -20);
+        Checks.same("promise 32: of the last", hall.protest(19), 1);
+        Checks.same("promise 33: 10 behind the mark", hall.resolve(0, 19, true), -30);
+        Checks.same("promise 29: upheld", hall.score(0, true), -10);
+        Checks.holds("promise 45: sound", hall.isSound());
     }
 }

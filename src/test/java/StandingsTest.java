@@ -16,6 +16,7 @@ public final class StandingsTest {
         countOfTheMatchThatGoesOn();
         countEarly();
         isSuspect();
+        isSuspectWithMore();
         best();
         share();
         meanWords();
@@ -376,6 +377,18 @@ public final class StandingsTest {
         Halls.parts(hall, "111");
         hall.know(0, 1, 9);
         Checks.holds("promise 41: by what the player knows now", !hall.isSuspect(0));
+    }
+
+    private static void isSuspectWithMore() {
+        TossupHall hall = Halls.begun(6);
+        // Of 4 words, buzzes behind fewer than 3 are early.
+        int[] words = {3, 1, 4, 2, 1, 3};
+        boolean[] due = {false, false, false, false, true, false};
+        for (int i = 0; i < 6; i++) {
+            Halls.play(hall, words[i], 0, "yes");
+            Halls.parts(hall, "111");
+            Checks.same("promise 41: behind " + (i + 1) + " right ones", hall.isSuspect(0) ? 1 : 0, due[i] ? 1 : 0);
+        }
     }
 
     private static void best() {
