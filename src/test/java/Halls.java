@@ -82,6 +82,16 @@ final class Halls {
         return hall;
     }
 
+    /** What ready made behind so many matches that ended ahead of the first word. */
+    static TossupHall emptyMatches(int matches) {
+        TossupHall hall = ready(1);
+        for (int i = 0; i < matches; i++) {
+            hall.match(0, 1, 0);
+            hall.end();
+        }
+        return hall;
+    }
+
     /** Lets a player answer the tossup, of which so many words more are read before. */
     static char play(TossupHall hall, int words, int player, String text) {
         if (words > 0) {
