@@ -767,6 +767,11 @@ final class StandingEdges extends Edges {
         hall.resolve(0, 1, true);
         isSound("one behind it, too", true, hall);
         isSound("40 matches", true, Halls.emptyMatches(40));
+        TossupHall later = hall(3, 1);
+        rated("no match", later, 0, 1, 2);
+        isSound("a match behind a rating", true, match(later, 0, 1, 0, "P"));
+        later.team(0);
+        isSound("a team behind that", true, later);
     }
 
     /** What no call can bring about is put into the hall's own fields here. */
@@ -783,12 +788,14 @@ final class StandingEdges extends Edges {
     @Promise(value = 45, says = "Returns whether each score is that of the log gone through anew by tossups; no question is in two packets; "
         + "and ratings solve what they should.")
     private static void p45NotSound() {
-        for (int side = 0; side < 2; side++) {
-            TossupHall scored = match(match(hall(2, 1), 0, 1, 0, "P"), 0, 1, 1, "p");
-            isSound("scores as they are due", true, scored);
-            int[] scores = (int[]) held(Array.get(held(scored, "matches"), 1), "scores");
-            scores[side] += 5;
-            isSound("a score that the log does not tell", false, scored);
+        for (int match = 0; match < 3; match++) {
+            for (int side = 0; side < 2; side++) {
+                TossupHall scored = match(match(match(hall(2, 1), 0, 1, 0, "P"), 0, 1, 1, "p"), 0, 1, 2, "d");
+                isSound("scores as they are due", true, scored);
+                int[] scores = (int[]) held(Array.get(held(scored, "matches"), match), "scores");
+                scores[side] += 5;
+                isSound("a score that the log does not tell", false, scored);
+            }
         }
         TossupHall packed = hall(2, 1);
         Object packets = held(packed, "packets");
