@@ -18,10 +18,15 @@ import java.util.regex.Pattern;
 public final class FaceTest {
     private static final Path FACE = Path.of("src", "test", "face.txt");
     private static final Path PROGRAM = Path.of("src", "main", "java", "TossupHall.java");
+    private static final Path DOCUMENT = Path.of("..", "shared", "DOC.md");
 
     public static void main(String[] args) throws IOException {
         String written = Files.readString(FACE, StandardCharsets.UTF_8);
         String program = Files.readString(PROGRAM, StandardCharsets.UTF_8);
+        if (Files.isReadable(DOCUMENT)) {
+            String document = Files.readString(DOCUMENT, StandardCharsets.UTF_8);
+            Checks.holds("face.txt is the document's code block", document.contains("\n" + written.strip() + "\n```"));
+        }
         face(written);
         insideClasses();
         words(program);
